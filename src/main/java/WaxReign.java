@@ -665,6 +665,7 @@ public final class WaxReign {
         }
 
         private boolean readsNumber(int kind, int item) {
+            // Blanks may stand ahead of a number, though not within it.
             tape.sign();
             int value = tape.number(2, MOST_OF_ITEM[FIRST_ITEM[kind] + item]);
             if (value == NONE) {
@@ -895,11 +896,11 @@ public final class WaxReign {
 
         boolean reads() {
             tape.at = 0;
-            for (told = 0; told < MOST; ) {
-                if (!readsStep(told * STEP)) {
+            for (int step = 0; step < MOST; step++) {
+                if (!readsStep(step * STEP)) {
                     return false;
                 }
-                told++;
+                told = step + 1;
                 if (tape.sign() == Tape.ENDED) {
                     return true;
                 }

@@ -48,6 +48,19 @@ public final class TextTest {
         CHECK.same("none more", y.feed(0, 0, 0, 0, 0), 240);
         CHECK.same("241", y.feed(0, 0, 1, 0, 0), -1);
         CHECK.same("blanks alone end too early", y.fault(0), 240);
+        for (int word = 0; word < 5; word++) {
+            int[] one = new int[5];
+            one[word] = 0x6D;
+            CHECK.same("241 by word " + word, y.feed(one[0], one[1], one[2], one[3], one[4]), -1);
+            WaxReign z = new WaxReign();
+            CHECK.same("word " + word, z.feed(one[0], one[1], one[2], one[3], one[4]), 1);
+            CHECK.same("is a byte", z.fault(2), -1);
+        }
+        WaxReign z = new WaxReign();
+        z.feed(0x733031FF, 0x02030405, 0, 0, 0);
+        CHECK.same("bytes in their order", z.fault(2), 3);
+        CHECK.same("and after them", z.end(3) ? z.text(2) : -5, 0);
+        CHECK.same("s01", z.step(0, 0, 2), 1);
     }
 
     private static void end() {
@@ -274,6 +287,7 @@ public final class TextTest {
         WaxReign x = new WaxReign();
         for (int i = 0; i < 4; i++) {
             CHECK.same("law " + i, Check.put(x, 1, "y:" + i), i);
+            CHECK.same("the tape is empty", x.count(4), 0);
             CHECK.same("reign " + i, Check.put(x, 2, "o" + i), i);
             CHECK.same("the tape is empty", x.count(4), 0);
         }
