@@ -846,7 +846,11 @@ public final class WaxReign {
                     return false;
                 }
                 tape.at++;
-                return readsSum(within + 1) && tape.passes(']');
+                if (!readsSum(within + 1) || tape.sign() != ']') {
+                    return false;
+                }
+                tape.at++;
+                return true;
             }
             int letter = LETTERS.indexOf((char) sign);
             if (letter >= 0) {
@@ -1001,14 +1005,6 @@ public final class WaxReign {
 
         private static int joined(int sign, int left, int right) {
             switch (sign) {
-                case '+':
-                    return bounded((long) left + right);
-                case '-':
-                    return bounded((long) left - right);
-                case '*':
-                    return bounded((long) left * right);
-                case '/':
-                    return right == 0 ? 0 : left / right;
                 case '=':
                     return left == right ? 1 : 0;
                 case '<':
@@ -1017,13 +1013,15 @@ public final class WaxReign {
                     return left > right ? 1 : 0;
                 case '&':
                     return left & right;
-                default:
+                case '|':
                     return left | right;
+                case '/':
+                    return right == 0 ? 0 : left / right;
+                default:
+                    // Products of two numbers within bounds do not fit an int.
+                    long value = sign == '+' ? (long) left + right : sign == '-' ? (long) left - right : (long) left * right;
+                    return (int) Math.max(-BOUND, Math.min(BOUND, value));
             }
-        }
-
-        private static int bounded(long value) {
-            return (int) Math.max(-BOUND, Math.min(BOUND, value));
         }
     }
 
