@@ -51,6 +51,20 @@ public final class ActsTest {
         CHECK.same("ring(0, 2)", x.ring(0, 2), -1);
         CHECK.same("ring(0, -1)", x.ring(0, -1), -1);
         CHECK.same("held at 0", Check.kingdom("th0w1s9;r").thing(0, 6), 0);
+        rulesBehindAllElse();
+    }
+
+    private static void rulesBehindAllElse() {
+        WaxReign x = Check.kingdom("to1h2d4s5w6;to4;t;t;t;t;to3h7d8s9w0;rk1;rk2;rk3;rk4;rk5;sw1h2b3");
+        int[] first = {1, 2, 4, 5, 6};
+        int[] last = {3, 7, 8, 9, 0};
+        for (int what = 0; what < 5; what++) {
+            CHECK.same("the first of seven, " + what, x.thing(0, what), first[what]);
+            CHECK.same("the last of seven, " + what, x.thing(6, what), last[what]);
+            CHECK.same("skill of the five", x.ring(what, 0), what + 1);
+        }
+        CHECK.same("the second of seven", x.thing(1, 0), 4);
+        CHECK.same("rules", x.rule(0) * 100 + x.rule(1) * 10 + x.rule(2), 123);
     }
 
     private static void holds(String law, int due) {

@@ -17,6 +17,7 @@ public final class ForecastTest {
         odds();
         all();
         knownTellsOpeners();
+        manyThingsAndRings();
         spare();
         harden();
         CHECK.ends();
@@ -325,6 +326,30 @@ public final class ForecastTest {
             CHECK.same("no such", x.known(ring), -1);
             CHECK.same("no such", x.tells(ring), -1);
         }
+    }
+
+    private static void manyThingsAndRings() {
+        WaxReign x = Check.kingdom("sh10w10;td1;td2;td3;td4;td5;td6;td7;rk0;r;r;r;rk2");
+        // Each holds 15 and needs four for a year.
+        CHECK.same("two of seven are kept", x.pack(24, 0), 96);
+        CHECK.same("depth", x.pack(24, 1), 13);
+        CHECK.same("least for all seven", x.least(127, 24, -1), 28);
+        CHECK.same("no eighth", x.least(128, 24, -1), -1);
+        CHECK.same("all seven in order", x.order(0), 123456);
+        CHECK.same("seven", x.order(1), 7);
+        CHECK.same("dealt", x.dealt(24, 0), 123456);
+        CHECK.same("depth of all", x.dealt(24, 1), 28);
+        WaxReign y = Check.kingdom("to1;r;r;r;r;rk2");
+        for (int i = 0; i < 9; i++) {
+            y.open(0);
+            y.seal(0, 2);
+            y.pry(0, 0);
+            y.seal(0, 1);
+        }
+        CHECK.same("nine scars", y.ring(0, 1), 9);
+        CHECK.same("scars are no skill", y.openers(0), 28);
+        CHECK.same("who", y.who(-1), 4);
+        CHECK.same("ask", y.ask(), 2);
     }
 
     private static void spare() {
