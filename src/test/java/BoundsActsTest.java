@@ -26,6 +26,8 @@ public final class BoundsActsTest {
         pryRefused();
         carry();
         heat();
+        eachOfSeven();
+        monthOfEachOfSeven();
         DOC.ends();
     }
 
@@ -552,5 +554,80 @@ public final class BoundsActsTest {
             }
         });
         DOC.says("16: NONE: it is so", () -> refuses("heat(3)", x -> x.heat(3)));
+    }
+
+    /** Of the i-th of seven: SUN i + 1, WAX i + 1, DEEP i + 2; all are of the last of five RINGS. */
+    private static WaxReign seven() {
+        StringBuilder text = new StringBuilder("sw40h0");
+        for (int i = 1; i <= 7; i++) {
+            text.append(";to4s" + i + "w" + i + "d" + (i + 1));
+        }
+        return Check.kingdom(text + ";rk9;rk0;r;r;r");
+    }
+
+    /** SUN, WAX and who KNOWS of the one are as told here, those of the other six as they were. */
+    private static void changesOne(WaxReign x, int one, int sun, int wax, int knows) {
+        for (int thing = 0; thing < 7; thing++) {
+            DOC.due("sun of " + thing, x.thing(thing, 3), thing == one ? sun : thing + 1);
+            DOC.due("wax of " + thing, x.thing(thing, 4), thing == one ? wax : thing + 1);
+            DOC.due("who knows " + thing, x.thing(thing, 5), thing == one ? knows : 16);
+        }
+    }
+
+    private static void eachOfSeven() {
+        DOC.says("12: WAX is set on each of seven by itself", () -> {
+            for (int thing = 0; thing < 7; thing++) {
+                WaxReign x = seven();
+                DOC.due("seal", x.seal(thing, 2), thing + 3);
+                changesOne(x, thing, thing + 1, thing + 3, 16);
+                DOC.due("wax", x.rule(0), 38);
+                DOC.due("above nine", x.seal(thing, 7 - thing), NONE);
+                DOC.due("nine", thing == 6 ? 9 : x.seal(thing, 6 - thing), 9);
+            }
+        });
+        DOC.says("13: each of seven OPENS by itself", () -> {
+            for (int thing = 0; thing < 7; thing++) {
+                WaxReign x = seven();
+                DOC.due("open", x.open(thing), 41 + thing);
+                changesOne(x, thing, thing + 1, 0, 16);
+            }
+        });
+        DOC.says("14: each of seven is PRIED by itself", () -> {
+            for (int thing = 0; thing < 7; thing++) {
+                WaxReign x = seven();
+                DOC.due("pry", x.pry(thing, 0), thing < 4 ? 1 : 0);
+                changesOne(x, thing, thing + 1, thing < 4 ? thing + 1 : 0, 17);
+                WaxReign y = seven();
+                DOC.due("pry", y.pry(thing, 1), 0);
+                changesOne(y, thing, thing + 1, 0, 18);
+            }
+        });
+        DOC.says("15: each of seven is CARRIED by itself", () -> {
+            for (int thing = 0; thing < 7; thing++) {
+                WaxReign x = seven();
+                DOC.due("it is so", x.carry(thing, thing + 1), NONE);
+                DOC.due("carry", x.carry(thing, 9), thing + 1);
+                changesOne(x, thing, 9, thing + 1, 16);
+                DOC.due("carry", x.carry(thing, 0), 9);
+                changesOne(x, thing, 0, thing + 1, 16);
+            }
+        });
+    }
+
+    private static void monthOfEachOfSeven() {
+        DOC.says("11: each of seven MELTS by itself", () -> {
+            for (int thing = 0; thing < 7; thing++) {
+                WaxReign x = seven();
+                x.law(Check.put(x, 1, "y:w=" + (thing + 1) + "?0;y:99"));
+                x.heat(1);
+                DOC.due("month", x.month(), 1);
+                changesOne(x, thing, thing + 1, 0, 31);
+                DOC.due("which", x.log(0, 1), 1 << thing);
+                DOC.due("shame", x.count(7), thing + 2);
+                x.seal(thing, thing + 1);
+                DOC.due("again", x.month(), 1);
+                DOC.due("no more shame", x.count(7), thing + 2);
+            }
+        });
     }
 }

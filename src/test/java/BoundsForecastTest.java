@@ -37,6 +37,9 @@ public final class BoundsForecastTest {
         openers();
         tells();
         harden();
+        eachOfSeven();
+        waxOfEachOfSeven();
+        smallBehindLarge();
         apart();
         DOC.ends();
     }
@@ -293,6 +296,11 @@ public final class BoundsForecastTest {
             DOC.due("the last first", down.order(0), 6534120);
             DOC.due("how many", down.order(1), 7);
         });
+        DOC.says("27: those that MELT: 22 holds 22, 21 does not", () -> {
+            DOC.due("21", Check.kingdom("sh10;th19s0;r").order(1), 1);
+            DOC.due("22", Check.kingdom("sh10;th20s0;r").order(1), 0);
+            DOC.due("both", Check.kingdom("sh10;th20s0;th19s0;r").order(0), 1);
+        });
         DOC.says("27: NONE: none", () -> {
             WaxReign x = Check.kingdom("sh10;th20s0;tw0;r");
             DOC.due("order", x.order(0), NONE);
@@ -333,6 +341,14 @@ public final class BoundsForecastTest {
             WaxReign x = Check.kingdom("sh10;th40s0d5;th8s9d4;r");
             DOC.due("row", x.dealt(1, 0), 10);
             DOC.due("how much", x.dealt(1, 1), 0);
+        });
+        DOC.says("28: the SUNS are dealt out the least first, however they lay", () -> {
+            DOC.due("9, 0", Check.kingdom("sh10;th8s9d5;th40s0d4;r").dealt(1, 0), 1);
+            DOC.due("9, 0: how much", Check.kingdom("sh10;th8s9d5;th40s0d4;r").dealt(1, 1), 0);
+            // 0 holds SUNS of 5 at most, 1 of 0, 2 of 9.
+            DOC.due("9, 5, 0", Check.kingdom("sh10;th13s9;th8s5;th17s0;r").dealt(1, 0), 102);
+            DOC.due("5, 9, 0", Check.kingdom("sh10;th13s5;th8s9;th17s0;r").dealt(1, 0), 102);
+            DOC.due("9, 0, 5", Check.kingdom("sh10;th13s9;th8s0;th17s5;r").dealt(1, 0), 102);
         });
         DOC.says("28: of several the least row", () -> {
             WaxReign melts = Check.kingdom("sh40;td9s9;td9s0;td9s5;r");
@@ -503,6 +519,35 @@ public final class BoundsForecastTest {
             WaxReign y = Check.kingdom("t;r");
             DOC.due("one that knows", y.ask(), 0);
         });
+        DOC.says("31: one is left: all are one apart, so that it is the least of all", () -> {
+            WaxReign x = Check.kingdom("t;r;r;r");
+            DOC.due("1, 2, 99", x.ask(), 1);
+            x.noted(1, 0, false);
+            DOC.due("2, 99", x.ask(), 2);
+            x.noted(2, 0, false);
+            DOC.due("99", x.ask(), 0);
+            WaxReign y = Check.kingdom("to1;r;r;r");
+            y.noted(2, 0, true);
+            DOC.due("2", y.ask(), 0);
+        });
+        DOC.says("31: 10 times a THING and a RING, up to the last ones", () -> {
+            WaxReign x = Check.kingdom("t;t;to1;r;r;r");
+            x.noted(1, 0, false);
+            x.noted(2, 0, false);
+            DOC.due("11, 12, 20, 22, 99", x.ask(), 11);
+            x.noted(1, 1, false);
+            x.noted(2, 1, false);
+            DOC.due("20, 22, 99", x.ask(), 20);
+            x.noted(0, 2, false);
+            DOC.due("22, 99", x.ask(), 22);
+            WaxReign last = Check.kingdom("sh40;t;t;t;t;t;t;to3w0;r;r;r;r;r");
+            last.month();
+            DOC.due("60, 61, 62, 64, 99", last.ask(), 60);
+            for (int ring = 0; ring < 3; ring++) {
+                last.noted(ring, 6, false);
+            }
+            DOC.due("64, 99", last.ask(), 64);
+        });
         DOC.says("31: NONE: nothing fits", () -> {
             DOC.refuses("ask", () -> {
                 WaxReign x = Check.kingdom("to1;r;r");
@@ -622,7 +667,8 @@ public final class BoundsForecastTest {
             }
         });
         DOC.says("33: NONE: as for GAME", () -> {
-            int[][] none = {{-1, 1, 0}, {5, 1, 0}, {0, -1, 0}, {0, 5, 0}, {0, 1, -1}, {0, 1, 2}, {0, 0, 0}, {3, 4, 1}, {2, 0, 0}, {0, 2, 0}};
+            int[][] none = {{-1, 1, 0}, {5, 1, 0}, {0, -1, 0}, {0, 5, 0}, {0, 1, -1}, {0, 1, 2}, {0, 0, 0}, {3, 4, 1},
+                {2, 0, 0}, {0, 2, 0}};
             for (int[] of : none) {
                 for (int i = NONE; i <= 0; i++) {
                     int asked = i;
@@ -740,6 +786,17 @@ public final class BoundsForecastTest {
             x.pry(2, 2);
             DOC.due("two scars", x.all(4), 2);
         });
+        DOC.says("35: SKILLED and SCARRED of five RINGS without SKILL", () -> {
+            WaxReign x = Check.kingdom("tw9;to1w9;rk0;rk0;rk0;rk0;rk0");
+            x.pry(1, 0);
+            DOC.due("skilled", x.all(3), 0);
+            DOC.due("scarred", x.all(4), 0);
+            x.seal(1, 1);
+            x.pry(1, 4);
+            x.pry(0, 4);
+            DOC.due("skilled", x.all(3), 0);
+            DOC.due("scarred", x.all(4), 4);
+        });
     }
 
     private static void allElse() {
@@ -758,6 +815,11 @@ public final class BoundsForecastTest {
             x.heat(40);
             x.month();
             DOC.due("the open one is left", x.all(6), 2);
+        });
+        DOC.says("35: SECRETS of seven, by RINGS of whatever SKILL", () -> {
+            for (int skill : new int[] {0, 1, 2, 4, 8}) {
+                DOC.due("by " + skill, Check.kingdom("t;t;t;t;t;t;t;rk" + skill + ";r;r;r;r").all(6), 127);
+            }
         });
         DOC.says("35: WAXED: none and 63", () -> {
             DOC.due("none", Check.kingdom("tw0;tw0;r").all(7), 0);
@@ -834,6 +896,15 @@ public final class BoundsForecastTest {
         DOC.says("38: SKILL twice the WAX or more", () -> {
             DOC.due("5, 6, 7", Check.kingdom("tw3;r;rk5;rk6;rk7").openers(0), 12);
         });
+        DOC.says("38: SCARS are no SKILL", () -> {
+            WaxReign x = Check.kingdom("to1;rk0;r;r;r;rk2");
+            for (int i = 0; i < 9; i++) {
+                x.pry(0, 0);
+                x.seal(0, 1);
+            }
+            DOC.due("scars", x.ring(0, 1), 9);
+            DOC.due("3, 3 and 2", x.openers(0), 28);
+        });
         DOC.says("38: NONE: no such THING", () -> {
             for (int thing : new int[] {-1, 4, 7, LEAST, MOST}) {
                 refuses("openers(" + thing + ")", x -> x.openers(thing));
@@ -894,6 +965,108 @@ public final class BoundsForecastTest {
             for (int n : new int[] {0, -1, 25, LEAST, MOST}) {
                 refuses("harden(0, " + n + ")", x -> x.harden(0, n));
             }
+        });
+    }
+
+    /** The i-th of seven has SUN i + 1 and HOLDS 11 and twice i; WARMTH is 10, 12, 14, 16, 18, 20, 22, 20, .. */
+    private static WaxReign seven() {
+        return Check.kingdomUnder("y:9+2*s", "sh10;ts1d1;ts2d2;ts3d3;ts4d4;ts5d5;ts6d6;ts7d7;r");
+    }
+
+    private static void eachOfSeven() {
+        DOC.says("24: LASTS of each of seven", () -> {
+            for (int thing = 0; thing < 7; thing++) {
+                DOC.due("lasts(" + thing + ")", seven().lasts(thing), thing < 6 ? thing + 2 : NONE);
+            }
+        });
+        DOC.says("27: ORDER of six of seven", () -> {
+            DOC.due("order", seven().order(0), 12345);
+            DOC.due("how many", seven().order(1), 6);
+        });
+        DOC.says("28: DEALT to seven", () -> {
+            DOC.due("in one", seven().dealt(1, 0), 123456);
+            DOC.due("one melts in two", seven().dealt(2, 1), 1);
+            DOC.due("the first of them", seven().dealt(2, 0), 123456);
+            DOC.due("six melt in seven", seven().dealt(7, 1), 21);
+        });
+        DOC.says("34: ODDS of each of seven", () -> {
+            for (int thing = 0; thing < 6; thing++) {
+                DOC.due("it holds", seven().odds(thing, thing + 1, 0), ALL_PARTS);
+                DOC.due("it melts", seven().odds(thing, thing + 2, 0), 0);
+            }
+            DOC.due("the last", seven().odds(6, 12, 0), ALL_PARTS);
+        });
+        DOC.says("35: SOFTEST, DEEPEST and HOTTEST of seven", () -> {
+            WaxReign x = seven();
+            DOC.due("softest", x.all(0), 0);
+            DOC.due("deepest", x.all(1), 6);
+            DOC.due("hottest", x.all(2), 6);
+            x.open(0);
+            x.open(6);
+            DOC.due("softest", x.all(0), 1);
+            DOC.due("deepest", x.all(1), 5);
+            DOC.due("hottest", x.all(2), 5);
+        });
+        DOC.says("37: SPARE of each of seven", () -> {
+            for (int thing = 0; thing < 7; thing++) {
+                DOC.due("spare(" + thing + ")", seven().spare(thing), 1 + 2 * thing);
+            }
+        });
+    }
+
+    private static void waxOfEachOfSeven() {
+        DOC.says("25: LEAST of each of seven", () -> {
+            WaxReign x = Check.kingdom("sh18;th0s0w1;th0s0w2;th0s0w3;th0s0w4;th0s0w5;th0s0w6;th0s0w7;r");
+            DOC.due("all", x.least(127, 1, NONE), 35);
+            for (int thing = 0; thing < 7; thing++) {
+                DOC.due("of all", x.least(127, 1, thing), 8 - thing);
+                DOC.due("alone", x.least(1 << thing, 1, NONE), 8 - thing);
+            }
+            DOC.due("in two not by nine", x.least(64, 2, 6), NONE);
+        });
+        DOC.says("34: ODDS by SUN and WAX of each of seven", () -> {
+            WaxReign x = Check.kingdom("sh10;th9s1;th10s2;th11s3;th8s2w2;th7s3w3;th6s4w4;th5s5w5;r");
+            for (int thing = 0; thing < 7; thing++) {
+                DOC.due("odds of " + thing, x.odds(thing, 1, 50), ALL_PARTS / 2);
+                DOC.due("in two", x.odds(thing, 2, 50), 0);
+            }
+        });
+        DOC.says("38: OPENERS of each of seven", () -> {
+            WaxReign x = Check.kingdom("tw1;tw2;tw3;tw4;tw5;tw6;tw7;r;rk2;rk4;rk6;rk8");
+            int[] due = {30, 28, 24, 16, 0, 0, 0};
+            for (int thing = 0; thing < 7; thing++) {
+                DOC.due("openers(" + thing + ")", x.openers(thing), due[thing]);
+            }
+        });
+        DOC.says("40: HARDEN of each of seven", () -> {
+            WaxReign x = Check.kingdom("sh30;th10;th11;th12;th13;th14;th15s1;th16w4;r");
+            int[] due = {20, 19, 18, 17, 16, 14, 8};
+            for (int thing = 0; thing < 7; thing++) {
+                DOC.due("harden(" + thing + ")", x.harden(thing, 1), due[thing]);
+            }
+        });
+    }
+
+    /** What was told apart of a larger KINGDOM is nothing to a smaller one. */
+    private static void smallBehindLarge() {
+        DOC.says("a smaller KINGDOM behind a larger one is told of as a new one", () -> {
+            WaxReign x = Check.kingdom("sw99h40;td9s9;td9s8;td9s7;td9s6;td9s5;td9s4;td9s3;r;r;r;r;r");
+            for (int what = 0; what <= 1; what++) {
+                x.dealt(24, what);
+                x.pack(24, what);
+                x.order(what);
+            }
+            x.least(127, 24, NONE);
+            x.who(NONE);
+            x.ask();
+            Check.put(x, 0, "sw0h10;th8s9d5;th40s0d4;r;r");
+            DOC.due("row", x.dealt(1, 0), 1);
+            DOC.due("how much", x.dealt(1, 1), 0);
+            DOC.due("pack", x.pack(1, 0), 2);
+            DOC.due("order", x.order(0), 0);
+            DOC.due("least", x.least(3, 1, NONE), 5);
+            DOC.due("who", x.who(NONE), 3);
+            DOC.due("ask", x.ask(), 1);
         });
     }
 

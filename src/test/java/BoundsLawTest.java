@@ -90,6 +90,18 @@ public final class BoundsLawTest {
             DOC.faults(1, "y:(1)+1", 4);
             DOC.faults(1, "y:(1=1)+1", 7);
         });
+        DOC.says("! UNIT", () -> {
+            DOC.faults(1, "y:!1=1?2", NONE);
+            DOC.faults(1, "y:!!1=1&!2=2?2", NONE);
+            DOC.faults(1, "y:!(1=1)?2", NONE);
+            DOC.faults(1, "y:!?1", 3);
+            DOC.faults(1, "y:!1?4", 4);
+            DOC.faults(1, "y:!1&1=1?4", 4);
+            DOC.faults(1, "y:(!1)?4", 5);
+            DOC.faults(1, "y:!", 3);
+            DOC.faults(1, "y:1=!1?4", 4);
+            DOC.faults(1, "y:1!=1?4", 3);
+        });
         DOC.says("( CONDITION )", () -> {
             DOC.faults(1, "y:(1=1|2=2&3=3)?1", NONE);
             DOC.faults(1, "y:1=1&(2=2)?1", NONE);
@@ -359,9 +371,20 @@ public final class BoundsLawTest {
                 weighs("y:!" + one + "&" + other + "?1;y:2", i == 2 ? 1 : 2);
                 weighs("y:!(" + one + "&" + other + ")?1;y:2", i == 0 ? 2 : 1);
             }
+            weighs("y:1<2&1=1?1;y:2", 1);
+            weighs("y:2>1&1=1?1;y:2", 1);
+            weighs("y:2>1&1<2?1;y:2", 1);
+            weighs("y:!1<2?1;y:2", 2);
+            weighs("y:!2>1?1;y:2", 2);
+            weighs("y:!2<1&!1>2?1;y:2", 1);
             weighs("y:1=1|1=2&1=2?1;y:2", 1);
             weighs("y:(1=1|1=2)&1=2?1;y:2", 2);
             weighs("y:1=2&1=2|1=1?1;y:2", 1);
+            weighs("y:1=1&(1=2)?1;y:2", 2);
+            weighs("y:1=1&(1=2|1=1)?1;y:2", 1);
+            weighs("y:1=2|(1=1&(1=1))?1;y:2", 1);
+            weighs("y:1=2|(1=1&(1=2))?1;y:2", 2);
+            weighs("y:1=1&!(1=1)?1;y:2", 2);
         });
     }
 

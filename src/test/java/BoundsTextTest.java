@@ -121,6 +121,17 @@ public final class BoundsTextTest {
             DOC.refuses("two more than 239", () -> taped(239), x -> x.feed(' ', 0, 0, 0, ' '), NONE);
             DOC.refuses("twenty more than 221", () -> taped(221), x -> x.feed(FULL, FULL, FULL, FULL, FULL), NONE);
         });
+        DOC.says("2: NONE: more than 240 by whichever byte", () -> {
+            WaxReign x = taped(240);
+            for (int place = 0; place < 20; place++) {
+                for (int sign : new int[] {1, 128, 255}) {
+                    int[] words = new int[5];
+                    words[place / 4] = sign << 8 * (3 - place % 4);
+                    DOC.due(sign + " at " + place, x.feed(words[0], words[1], words[2], words[3], words[4]), NONE);
+                }
+            }
+            DOC.due("bytes", x.count(4), 240);
+        });
     }
 
     private static void end() {
@@ -176,11 +187,14 @@ public final class BoundsTextTest {
             }
         });
         DOC.says("4: asking for a FAULT changes nothing", () -> {
+            int[] ofKingdom = {NONE, 0, 1};
+            int[] ofLaw = {0, NONE, 0};
+            int[] ofReign = {0, 0, NONE};
             for (int sort = 0; sort <= 2; sort++) {
                 int asked = sort;
-                DOC.refuses("fault of a kingdom", () -> busy("s;th9d9;rk9;r"), x -> x.fault(asked), asked == 0 ? NONE : asked == 1 ? 0 : 1);
-                DOC.refuses("fault of a law", () -> busy("y:9;y:h"), x -> x.fault(asked), asked == 1 ? NONE : 0);
-                DOC.refuses("fault of a reign", () -> busy("o9;o8"), x -> x.fault(asked), asked == 2 ? NONE : 0);
+                DOC.refuses("fault of a kingdom", () -> busy("s;th9d9;rk9;r"), x -> x.fault(asked), ofKingdom[sort]);
+                DOC.refuses("fault of a law", () -> busy("y:9;y:h"), x -> x.fault(asked), ofLaw[sort]);
+                DOC.refuses("fault of a reign", () -> busy("o9;o8"), x -> x.fault(asked), ofReign[sort]);
             }
         });
     }
@@ -357,7 +371,8 @@ public final class BoundsTextTest {
     }
 
     /** The digits stand from byte 2 on. */
-    private static void item(String sentence, String clause, String letter, int most, int without, String rest, ToIntFunction<WaxReign> told) {
+    private static void item(String sentence, String clause, String letter, int most, int without, String rest,
+        ToIntFunction<WaxReign> told) {
         String head = clause + letter;
         DOC.says(sentence, () -> {
             DOC.due(head + " without", told.applyAsInt(Check.kingdom(clause + rest)), without);
@@ -435,6 +450,16 @@ public final class BoundsTextTest {
                 DOC.faults(2, "m;" + (char) sign + "m", 2);
             }
         });
+        DOC.says("no byte ends a TEXT", () -> {
+            for (int sign = 1; sign < 256; sign++) {
+                if (sign != ' ') {
+                    String end = "" + (char) sign;
+                    DOC.faults(0, "t;r" + end, sign == ';' || sign == 'k' ? 4 : 3);
+                    DOC.faults(2, "m" + end, sign == ';' ? 2 : 1);
+                    DOC.faults(1, "y:h" + end, "+-*/=<>;".indexOf(sign) >= 0 ? 4 : 3);
+                }
+            }
+        });
         DOC.says("bytes beyond 127 are no signs", () -> {
             DOC.faults(0, "" + (char) ('t' + 128) + ";r", 0);
             DOC.faults(0, "th" + (char) ('1' + 128) + ";r", 2);
@@ -488,8 +513,11 @@ public final class BoundsTextTest {
         });
         DOC.says("a STEP is m, s, p or o", () -> {
             for (char letter = 'a'; letter <= 'z'; letter++) {
-                DOC.faults(2, "m;" + letter + "00", letter == 'm' || letter == 'o' ? letter == 'm' ? 3 : 4 : letter == 's' || letter == 'p' ? NONE : 2);
+                if ("mspo".indexOf(letter) < 0) {
+                    DOC.faults(2, "m;" + letter + "00", 2);
+                }
             }
+            DOC.faults(2, "m;s00;p00;o0", NONE);
         });
     }
 
