@@ -1020,7 +1020,7 @@ public final class WaxReign {
                 default:
                     // Products of two numbers within bounds do not fit an int.
                     long value = sign == '+' ? (long) left + right : sign == '-' ? (long) left - right : (long) left * right;
-                    return (int) Math.max(-BOUND, Math.min(BOUND, value));
+                    return value > BOUND ? BOUND : value < -BOUND ? -BOUND : (int) value;
             }
         }
     }
